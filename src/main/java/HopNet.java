@@ -553,7 +553,7 @@ public final class HopNet {
         if (!canBe || !hasTimeFor(n)) {
             return NONE;
         }
-        int heard = heardOnPaper(share, n);
+        int heard = paperWith(share).heardInTurns(n);
         switch (what) {
             case 0: return heard;
             case 1: return paper.framesMissed() - world.framesMissed();
@@ -594,7 +594,7 @@ public final class HopNet {
         if (world.netAt(net) == null || !isWithin(n, 1, MOST_TURNS) || !hasTimeFor(n)) {
             return NONE;
         }
-        heardOnPaper(world.share, n);
+        paperWith(world.share).heardInTurns(n);
         Net of = paper.nets[net];
         return of.isCasting ? CASTING : of.chosen;
     }
@@ -650,7 +650,7 @@ public final class HopNet {
         int best = 0;
         int most = NONE;
         for (int share = 0; share <= SHARE_ROW; share += 2) {
-            int heard = heardOnPaper(share, n);
+            int heard = paperWith(share).heardInTurns(n);
             if (heard > most) {
                 most = heard;
                 best = share;
@@ -739,10 +739,10 @@ public final class HopNet {
         return world.time + 2 * turns <= LAST_TIME;
     }
 
-    private int heardOnPaper(int share, int turns) {
+    private World paperWith(int share) {
         paper.copyFrom(world);
         paper.share = share;
-        return paper.heardInTurns(turns);
+        return paper;
     }
 
     private Plan planOf(int net, int link) {
@@ -1288,19 +1288,19 @@ public final class HopNet {
             }
         }
 
-        void hearCast() {
-            for (int i = 0; i < linkCount && i < LINKS; i++) {
+        void endCastTurn(int repeats) {
+            for (int i = 0; i < linkCount && i < LINKS && packetHeard; i++) {
                 if (links[i].isReady && byMap(hopInSlot, links[i].plan.map) == channelInSlot) {
                     links[i].hearCast(casts[0], castBit);
                 }
             }
+            firstCastSent++;
+            if (firstCastSent >= repeats) {
+                dropFirstCast();
+            }
         }
 
-        void endCastTurn(int repeats) {
-            firstCastSent++;
-            if (firstCastSent < repeats) {
-                return;
-            }
+        void dropFirstCast() {
             for (int i = 1; i < castCount && i < CASTS; i++) {
                 casts[i - 1] = casts[i];
             }
@@ -1532,11 +1532,6 @@ public final class HopNet {
             return nets[1 - n].channelInSlot == channel ? BY_CLASH : 0;
         }
 
-        void lose(Link link, int side, int loss) {
-            link.why = side + loss;
-            tallies[LOST + loss]++;
-        }
-
         /** The CHANNEL on which a NET's MASTER sends in this TURN, or NONE. */
         void tunePacket(int n) {
             Net net = nets[n];
@@ -1562,31 +1557,28 @@ public final class HopNet {
             int loss = lossOnAir(n);
             Link link = net.linkAt(net.chosen);
             if (link == null) {
-                sendCast(net, loss);
-                return;
+                tallies[CASTS_SENT]++;
+            } else {
+                net.tallySent();
+                if (loss == 0 && byMap(net.hopInSlot, link.plan.map) != net.channelInSlot) {
+                    loss = BY_STEP;
+                }
             }
-            if (loss == 0 && byMap(net.hopInSlot, link.plan.map) != net.channelInSlot) {
-                loss = BY_STEP;
-            }
-            net.tallySent();
             net.packetHeard = loss == 0;
             if (loss != 0) {
-                lose(link, 10, loss);
-            }
-        }
-
-        void sendCast(Net net, int loss) {
-            tallies[CASTS_SENT]++;
-            if (loss != 0) {
                 tallies[LOST + loss]++;
-            } else {
-                net.hearCast();
             }
-            net.endCastTurn(repeats);
+            if (loss != 0 && link != null) {
+                link.why = 10 + loss;
+            }
         }
 
         void hearPacket(int n) {
             Net net = nets[n];
+            if (net.isCasting) {
+                net.endCastTurn(repeats);
+                return;
+            }
             Link link = net.linkAt(net.chosen);
             if (link == null || !net.packetHeard) {
                 return;
@@ -1640,10 +1632,11 @@ public final class HopNet {
             if (loss == 0 && byMap(net.hopInSlot, net.plan.map) != net.channelInSlot) {
                 loss = BY_STEP;
             }
-            if (loss != 0) {
-                lose(link, 20, loss);
-            } else {
+            if (loss == 0) {
                 hearAnswer(net, link);
+            } else {
+                tallies[LOST + loss]++;
+                link.why = 20 + loss;
             }
         }
 
