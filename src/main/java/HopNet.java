@@ -1183,8 +1183,8 @@ public final class HopNet {
             linkCount--;
             links[linkCount] = gone;
             if (polled == i) {
-                // The one below had its polls: the next poll looks behind it.
-                pollsInRow = MOST_WEIGHT;
+                // The one below was not polled last: the next poll looks behind it.
+                pollsInRow = NONE;
             }
             if (polled >= i) {
                 polled--;
@@ -1260,7 +1260,8 @@ public final class HopNet {
 
         int nextPolled() {
             Link latest = linkAt(polled);
-            if (latest != null && latest.isReady && pollsInRow < latest.weight) {
+            boolean goesOn = latest != null && pollsInRow != NONE && pollsInRow < latest.weight;
+            if (goesOn && latest.isReady) {
                 pollsInRow++;
                 return polled;
             }
@@ -1268,8 +1269,8 @@ public final class HopNet {
                 int i = (polled + step) % linkCount;
                 Link next = linkAt(i);
                 if (next != null && next.isReady) {
+                    pollsInRow = i == polled && pollsInRow != NONE ? pollsInRow + 1 : 1;
                     polled = i;
-                    pollsInRow = 1;
                     return i;
                 }
             }

@@ -202,6 +202,12 @@ public final class ActsTest {
         Check.due("5 but the one behind is chosen", x.ahead(0, 1), 1);
         Check.due("5 as often as it weighs", x.ahead(0, 4), 1);
         Check.due("5 then round", x.ahead(0, 5), 0);
+        x.sniff(0, 1, 64, 1);
+        Check.due("5 without that one it is the first itself", x.ahead(0, 1), 0);
+        x.run(1);
+        x.sniff(0, 1, 0, 0);
+        Check.due("5 its row begins with that", x.ahead(0, 3), 0);
+        Check.due("5 and goes as far as it weighs", x.ahead(0, 4), 1);
     }
 
     private static void noise() {

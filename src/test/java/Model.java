@@ -103,7 +103,8 @@ final class Model {
         int next = 0;
         int instant = NONE;
         int polled = NONE;
-        int inRow = 0;
+        /** The MEMBERS chosen by polls in a row: all alike; the last one is POLLED's, or it left. */
+        List<L> polls = new ArrayList<>();
         List<L> links = new ArrayList<>();
         LinkedList<Integer> casts = new LinkedList<>();
         int castBit = 0;
@@ -121,9 +122,11 @@ final class Model {
             c.next = next;
             c.instant = instant;
             c.polled = polled;
-            c.inRow = inRow;
             for (L l : links) {
                 c.links.add(l.copy());
+            }
+            for (L l : polls) {
+                c.polls.add(links.contains(l) ? c.links.get(links.indexOf(l)) : null);
             }
             c.casts = new LinkedList<>(casts);
             c.castBit = castBit;
@@ -208,6 +211,8 @@ final class Model {
         /** LINK, NONE, or -2 when the NET CASTS. */
         int choose(int n) {
             N net = nets[n];
+            L polledOne = net.polled == NONE ? null : net.links.get(net.polled);
+            boolean wasPolled = polledOne != null && net.polls.contains(polledOne);
             if (net.master == NONE || !there(net.master, n, time)) {
                 return NONE;
             }
@@ -225,9 +230,8 @@ final class Model {
             if (!net.casts.isEmpty()) {
                 return -2;
             }
-            if (net.polled != NONE && ready(n, net.links.get(net.polled), time)
-                    && net.inRow < net.links.get(net.polled).weight) {
-                net.inRow++;
+            if (wasPolled && ready(n, polledOne, time) && net.polls.size() < polledOne.weight) {
+                net.polls.add(polledOne);
                 return net.polled;
             }
             List<Integer> order = new ArrayList<>();
@@ -239,8 +243,11 @@ final class Model {
             }
             for (int i : order) {
                 if (ready(n, net.links.get(i), time)) {
+                    if (!net.polls.contains(net.links.get(i))) {
+                        net.polls.clear();
+                    }
                     net.polled = i;
-                    net.inRow = 1;
+                    net.polls.add(net.links.get(i));
                     return i;
                 }
             }
@@ -595,7 +602,7 @@ final class Model {
             n.polled--;
         } else if (n.polled == link) {
             n.polled--;
-            n.inRow = 1000;
+            n.polls.clear();
         }
         return yes(n.links.size());
     }

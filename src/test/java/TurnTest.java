@@ -137,6 +137,34 @@ public final class TurnTest {
         Check.due("polled", x.ofNet(0, 3), 0);
     }
 
+    private static void aRowOfPollsGoesOnRound() {
+        HopNet x = oneNet(2);
+        x.weigh(0, 0, 3);
+        x.sniff(0, 1, 64, 1);
+        x.leave(0, 0);
+        x.join(0, 1);
+        x.weigh(0, 1, 3);
+        // LINK 0 is awake at 0, 64 alone; LINK 1 weighs 3 and is polled all along from 2 to 62.
+        x.run(32);
+        Check.due("polled alone", x.link(0, 1, 10), 31);
+        Check.due("more often in a row than it weighs: the other one is next", x.ahead(0, 1), 0);
+        Check.due("then its row begins", x.ahead(0, 2), 1);
+    }
+
+    private static void framesAndCastsDoNotEndARow() {
+        HopNet x = oneNet(2);
+        x.weigh(0, 0, 2);
+        x.run(1);
+        x.cast(0, 1);
+        x.terms(2, 1);
+        x.run(1);
+        Check.due("a cast between", x.ahead(0, 1), 0);
+        x.reserve(0, 1, 40, 4, 1);
+        Check.due("a frame between", x.ahead(0, 1), 1);
+        Check.due("it has one more", x.ahead(0, 2), 0);
+        Check.due("and no more", x.ahead(0, 3), 1);
+    }
+
     private static void framesGoFirst() {
         HopNet x = oneNet(3);
         x.reserve(0, 2, 6, 2, 2);
@@ -422,6 +450,8 @@ public final class TurnTest {
         sequenceBits();
         upIsTakenWithTheNextPacket();
         pollsInTurn();
+        aRowOfPollsGoesOnRound();
+        framesAndCastsDoNotEndARow();
         framesGoFirst();
         framesAreMissed();
         casts();
