@@ -477,7 +477,9 @@ public final class HopNet {
     }
 
     public int isThere(int radio, int net, int slot) {
-        if (!world.hasRadio(radio) || world.netAt(net) == null || !isWithin(slot, 0, LAST_SLOT)) {
+        // A NET without a MASTER is a NET all the same: no RADIO is in it.
+        boolean canBe = isWithin(net, 0, NETS - 1) && isWithin(slot, 0, LAST_SLOT);
+        if (!canBe || !world.hasRadio(radio)) {
             return NONE;
         }
         return bit(world.isPresent(radio, net, slot));

@@ -929,7 +929,7 @@ final class Model {
     }
 
     int isThere(int radio, int net, int slot) {
-        if (!isRadio(radio) || netOf(net) == null || !in(slot, 0, 199999)) {
+        if (!isRadio(radio) || !in(net, 0, 1) || !in(slot, 0, 199999)) {
             return NONE;
         }
         return w.there(radio, net, slot) ? 1 : 0;

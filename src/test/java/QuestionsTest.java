@@ -345,8 +345,30 @@ public final class QuestionsTest {
         Check.due("30 radio above", x.isThere(4, 0, 0), NONE);
         Check.due("30 radio below", x.isThere(-1, 0, 0), NONE);
         Check.due("30 net", x.isThere(1, 2, 0), NONE);
+        Check.due("30 net below", x.isThere(1, -1, 0), NONE);
         x.leave(1, 0);
         Check.due("30 shares no more", x.isThere(1, 0, 31) * 10 + x.isThere(1, 1, 31), 10);
+    }
+
+    private static void isThereInNetWithoutMaster() {
+        HopNet x = new HopNet();
+        Check.due("30 no radio", x.isThere(0, 0, 0), NONE);
+        x.radio(5);
+        x.radio(6);
+        for (int net = 0; net < 2; net++) {
+            Check.due("30 net not there", x.isThere(1, net, 0), 0);
+            Check.due("30 net not there, last slot", x.isThere(1, net, 199999), 0);
+            Check.due("30 net not there, slot above", x.isThere(1, net, 200000), NONE);
+            Check.due("30 net not there, slot below", x.isThere(1, net, -1), NONE);
+            Check.due("30 net not there, radio above", x.isThere(2, net, 0), NONE);
+            Check.due("30 net not there, radio below", x.isThere(-1, net, 0), NONE);
+        }
+        Check.due("30 net below, no nets", x.isThere(1, -1, 0), NONE);
+        Check.due("30 net above, no nets", x.isThere(1, 2, 0), NONE);
+        x.net(0, 0, 0);
+        Check.due("30 master of the other", x.isThere(0, 0, 31) * 10 + x.isThere(0, 1, 31), 10);
+        x.undo();
+        Check.due("30 net taken back", x.isThere(0, 0, 31), 0);
     }
 
     private static void odds() {
@@ -669,6 +691,7 @@ public final class QuestionsTest {
         linkAndHash();
         reserved();
         isThere();
+        isThereInNetWithoutMaster();
         odds();
         oddsOutOfStep();
         drain();
