@@ -1,4 +1,3 @@
-import java.util.ArrayList;
 import java.util.List;
 import java.util.Random;
 
@@ -16,37 +15,6 @@ public final class LawsTest {
 
     private int among(int lo, int hi) {
         return lo + random.nextInt(hi - lo + 1);
-    }
-
-    /** All that can be asked without much work, but for what is told of refusals and of undo(). */
-    private List<Integer> view() {
-        List<Integer> seen = new ArrayList<>();
-        for (int what = 0; what < 20; what++) {
-            seen.add(what >= 5 && what <= 9 ? 0 : x.count(what));
-        }
-        for (int n = 0; n < 2; n++) {
-            for (int what = 0; what < 7; what++) {
-                seen.add(x.ofNet(n, what));
-            }
-            for (int l = -1; l < 4; l++) {
-                for (int what = 0; what < 17; what++) {
-                    seen.add(x.link(n, l, what));
-                    seen.add(what < 4 ? x.mapOf(n, l, what) : 0);
-                    seen.add(what < 6 ? x.reserved(n, l, what) : 0);
-                    seen.add(what < 3 ? x.hash(n, l, what) : 0);
-                    seen.add(what < 3 ? x.alike(n, l, what) : 0);
-                }
-                seen.add(x.ready(n, l));
-                seen.add(x.hop(n, l, 1234));
-            }
-            for (int c = 0; c < 23; c++) {
-                seen.add(x.sent(n, c, 0));
-                seen.add(x.sent(n, c, 1));
-            }
-            seen.add(x.quiet(n, 3));
-            seen.add(x.ahead(n, 3));
-        }
-        return seen;
     }
 
     private int anAct() {
@@ -71,18 +39,18 @@ public final class LawsTest {
     }
 
     private void actsAreTakenBack() {
-        List<Integer> before = view();
+        List<Integer> before = View.of(x);
         int kept = x.count(9);
         boolean refused = anAct() < 0 && x.status() < 0 || x.status() < 0;
         if (refused) {
-            Check.that("a refused act changes nothing", before.equals(view()) && x.count(9) == kept);
+            Check.that("a refused act changes nothing", before.equals(View.of(x)) && x.count(9) == kept);
             return;
         }
         Check.due("an act is kept", x.count(9), Math.min(8, kept + 1));
-        List<Integer> after = view();
+        List<Integer> after = View.of(x);
         if (random.nextInt(3) == 0) {
             Check.that("undo tells an act", x.undo() >= 0);
-            Check.that("undo brings all back", before.equals(view()));
+            Check.that("undo brings all back", before.equals(View.of(x)));
         } else if (random.nextInt(4) == 0) {
             int k = among(0, 1);
             x.image(k);
@@ -90,20 +58,20 @@ public final class LawsTest {
                 anAct();
             }
             x.back(k);
-            Check.that("back brings all back", after.equals(view()));
+            Check.that("back brings all back", after.equals(View.of(x)));
             Check.due("back leaves nothing to undo", x.count(9), 0);
         }
     }
 
     private void questionsChangeNothing() {
-        List<Integer> before = view();
+        List<Integer> before = View.of(x);
         x.drain(0, 0);
         x.would(2 * among(0, 16), among(1, 50), among(0, 2));
         x.bestShare(among(1, 8));
         x.bestOffset(among(1, 50));
         x.clashes(among(1, 50));
         x.meets();
-        Check.that("questions change nothing", before.equals(view()));
+        Check.that("questions change nothing", before.equals(View.of(x)));
     }
 
     private void paperComesTrue() {
