@@ -674,6 +674,40 @@ public final class EdgesOfTermsTest {
         }
     }
 
+    // II (c): "the first one that is READY and whose FRAME is open": LINK 0 and the last LINK, too.
+    private static void framesOfTheOuterLinks() {
+        for (int link = 0; link < 4; link += 3) {
+            HopNet x = Scene.oneNet(4);
+            x.run(1);
+            x.reserve(0, link, 40, 4, 1);
+            Check.due("a poll", x.ahead(0, 1), 1);
+            Check.due("the frame of " + link, x.ahead(0, 2), link);
+            Check.due("polls go on", x.ahead(0, 3), 2);
+        }
+    }
+
+    // II (c): LINKS that there are: one that left with its FRAME open, or of which was not KNOWN, is not CHOSEN.
+    private static void oneThatLeftIsNotChosen() {
+        HopNet x = Scene.oneNet(2);
+        Scene.noise(x, 16);
+        x.reserve(0, 1, 12, 0, 3);
+        x.run(1);
+        Check.due("its frame is open", x.reserved(0, 1, 5), 2);
+        x.leave(0, 1);
+        x.run(1);
+        Check.due("the other is polled", x.link(0, 0, 10), 1);
+        HopNet y = Scene.oneNet(2);
+        y.map(0, 255, 50);
+        y.run(1);
+        Check.due("the second is not known", y.alike(0, 1, 2), 0);
+        y.leave(0, 1);
+        y.run(1);
+        Check.due("the first is polled", y.link(0, 0, 10), 2);
+        Check.due("polled", y.ofNet(0, 3), 0);
+        y.join(0, 2);
+        Check.due("it knows of it when it comes again", y.alike(0, 1, 2), 1);
+    }
+
     // II (c): each only "that is READY".
     private static void onlyThoseThatAreReady() {
         HopNet x = Scene.oneNet(3);
@@ -817,6 +851,27 @@ public final class EdgesOfTermsTest {
         x.run(1);
         Check.due("net 0's is below", x.link(0, 0, 5), 11);
         Check.that("net 1's is not", x.link(1, 0, 5) != 11);
+    }
+
+    // II (d), (e): "there is a DRAW", "NET by NET a DRAW": one for each packet and answer, none for silence.
+    private static void aDrawForEachPacketAndAnswer() {
+        HopNet x = Scene.twoNets();
+        Scene.noise(x, 5);
+        x.sniff(0, 1, 8, 2);
+        long seed = 1;
+        int draws = 0;
+        for (int i = 0; i < 60; i++) {
+            if (i % 10 == 0) {
+                x.cast(i / 10 % 2, i);
+            }
+            x.run(1);
+            for (; draws < x.count(10) + x.count(11); draws++) {
+                seed = (1103 * seed + 12345) % 1000003;
+            }
+            Check.due("draws so far", x.count(2), seed);
+        }
+        int lost = x.count(12) + x.count(13) + x.count(14);
+        Check.that("some were lost, some were not", lost > 0 && lost < draws);
     }
 
     /** Goes on, nothing being heard, to a TIME (modulo 4: 0) at which LINK 0 of NET 0 is in step so, or not. */
@@ -1126,6 +1181,8 @@ public final class EdgesOfTermsTest {
         mapsChangeOfThoseAway();
         framesComeToThoseAway();
         theOrderOfChoice();
+        framesOfTheOuterLinks();
+        oneThatLeftIsNotChosen();
         onlyThoseThatAreReady();
         rowsOfPolls();
         polledItselfAtTheLast();
@@ -1134,6 +1191,7 @@ public final class EdgesOfTermsTest {
         theMapAhead();
         theMapOfOneKnown();
         drawsNetByNet();
+        aDrawForEachPacketAndAnswer();
         theOrderOfLosses();
         noClashWithOneThatIsSilent();
         castsToThoseAwake();
