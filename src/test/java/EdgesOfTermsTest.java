@@ -942,6 +942,49 @@ public final class EdgesOfTermsTest {
         Check.due("told as step", x.count(14), 1);
     }
 
+    private static void tallies(String what, HopNet x, int... due) {
+        for (int i = 0; i < due.length; i++) {
+            Check.due(what + ", count " + (10 + i), x.count(10 + i), due[i]);
+        }
+    }
+
+    // 44: 10 .. 17 are each their own: what raises one leaves the others.
+    private static void eachTallyIsItsOwn() {
+        HopNet quiet = Scene.oneNet(1);
+        quiet.run(1);
+        tallies("a packet and its answer", quiet, 1, 1, 0, 0, 0, 0, 0, 0);
+        Scene.noise(quiet, 16);
+        quiet.run(1);
+        tallies("lost by noise", quiet, 2, 1, 1, 0, 0, 0, 0, 0);
+        HopNet twins = twinsWithLinks();
+        twins.run(1);
+        tallies("lost by clash", twins, 2, 0, 0, 2, 0, 0, 0, 0);
+        HopNet behind = oneMapBehind();
+        runUnderNoiseTo(behind, false, false);
+        int lost = behind.count(12);
+        behind.run(1);
+        tallies("lost by step", behind, lost + 1, 0, lost, 0, 1, 0, 0, 0);
+        HopNet passes = bridge();
+        passes.put(0, 0, 0, 128);
+        passes.run(1);
+        tallies("passed", passes, 1, 1, 0, 0, 0, 1, 0, 0);
+        for (int i = 0; i < 7; i++) {
+            passes.put(1, 0, 1, i);
+        }
+        passes.put(0, 0, 0, 128);
+        passes.run(1);
+        tallies("dropped", passes, 2, 2, 0, 0, 0, 1, 1, 0);
+        passes.cast(0, 1);
+        passes.run(1);
+        tallies("cast", passes, 3, 2, 0, 0, 0, 1, 1, 1);
+        Check.due("no new map", passes.count(19), 0);
+        passes.map(0, 255, 1);
+        passes.map(1, 255, 1);
+        passes.run(2);
+        Check.due("two new maps", passes.count(19), 2);
+        Check.due("casts as they were", passes.count(17), 2);
+    }
+
     // II (d): "2 CLASH, if the other NET sends on that CHANNEL in this slot": not if it sends nothing.
     private static void noClashWithOneThatIsSilent() {
         HopNet x = twinsWithLinks();
@@ -1193,6 +1236,7 @@ public final class EdgesOfTermsTest {
         drawsNetByNet();
         aDrawForEachPacketAndAnswer();
         theOrderOfLosses();
+        eachTallyIsItsOwn();
         noClashWithOneThatIsSilent();
         castsToThoseAwake();
         castsToThoseInStep();

@@ -151,6 +151,20 @@ public final class TurnTest {
         Check.due("then its row begins", x.ahead(0, 2), 1);
     }
 
+    private static void aRowThatWentRoundIsCounted() {
+        HopNet x = oneNet(2);
+        x.run(1);
+        x.sniff(0, 1, 64, 1);
+        x.run(2);
+        x.sniff(0, 1, 0, 0);
+        // LINK 0 was polled three times in a row by now, the last two since no other was ready.
+        x.weigh(0, 0, 3);
+        Check.due("three times are not fewer than three", x.ahead(0, 1), 1);
+        x.weigh(0, 0, 4);
+        Check.due("but fewer than four", x.ahead(0, 1), 0);
+        Check.due("once", x.ahead(0, 2), 1);
+    }
+
     private static void framesAndCastsDoNotEndARow() {
         HopNet x = oneNet(2);
         x.weigh(0, 0, 2);
@@ -451,6 +465,7 @@ public final class TurnTest {
         upIsTakenWithTheNextPacket();
         pollsInTurn();
         aRowOfPollsGoesOnRound();
+        aRowThatWentRoundIsCounted();
         framesAndCastsDoNotEndARow();
         framesGoFirst();
         framesAreMissed();
