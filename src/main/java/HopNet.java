@@ -1400,7 +1400,11 @@ public final class HopNet {
             int hop = hopIn(net, slot);
             int channel = byMap(hop, nets[net].plan.map);
             boolean inStep = byMap(hop, link.plan.map) == channel;
-            return inStep ? FULL_NOISE - noises[channel] : 0;
+            return inStep ? FULL_NOISE - noiseOn(channel) : 0;
+        }
+
+        int noiseOn(int channel) {
+            return channel >= 0 && channel < CHANNELS ? noises[channel] : 0;
         }
 
         int framesMissed() {
@@ -1528,8 +1532,7 @@ public final class HopNet {
         /** 0, or what keeps all from hearing what a NET sends in this slot. */
         int lossOnAir(int n) {
             int channel = nets[n].channelInSlot;
-            int drawn = draw();
-            if (channel >= 0 && channel < CHANNELS && drawn < noises[channel]) {
+            if (draw() < noiseOn(channel)) {
                 return BY_NOISE;
             }
             return nets[1 - n].channelInSlot == channel ? BY_CLASH : 0;

@@ -58,12 +58,22 @@ public final class FaceTest {
             int fields = inside.getDeclaredFields().length;
             Check.that(inside.getName() + " has few fields", fields <= 22);
             for (Method m : inside.getDeclaredMethods()) {
-                for (String name : FACE) {
-                    Check.that("name " + m.getName(), !name.startsWith(m.getName() + " "));
-                }
+                hasNoPublicName(m);
+            }
+        }
+        for (Method m : HopNet.class.getDeclaredMethods()) {
+            Check.that(m.getName() + " takes seven at most", m.getParameterCount() <= 7);
+            if (Modifier.isPrivate(m.getModifiers())) {
+                hasNoPublicName(m);
             }
         }
         Check.that("few classes", HopNet.class.getDeclaredClasses().length < 12);
+    }
+
+    private static void hasNoPublicName(Method m) {
+        for (String name : FACE) {
+            Check.that("name " + m.getName(), !name.startsWith(m.getName() + " "));
+        }
     }
 
     private static void theText() throws IOException {
